@@ -293,7 +293,7 @@ public final class PairChoice {
     }
 
     private static boolean has(int set, int animal) {
-        return (set >> animal & 1) != 0;
+        return ((set >> animal) & 1) != 0;
     }
 
     /** The least animal of a set that has one. */
@@ -582,7 +582,7 @@ public final class PairChoice {
             if (!has(herd.males & ~set, male) || has(herd.barred[male], pairing.females[k])) {
                 return false;
             }
-            int changed = set & ~bit(pairing.males[k]) | bit(male);
+            int changed = (set & ~bit(pairing.males[k])) | bit(male);
             return herd.keepsRules(changed, pairs);
         }
     }

@@ -51,7 +51,11 @@ public final class ModelTest {
             int v = some(kinSpread);
             is("kin", x.kin(a, b, v), model.kin(a, b, v), a, b, v);
         }
-        for (int i = 0; i < 200; i++) {
+        int bars = random.nextInt(40);
+        for (int i = 0; i < bars; i++) {
+            oneCall(3);
+        }
+        for (int i = 0; i < 160; i++) {
             oneCall(random.nextInt(16));
             if (i % 16 == 0) {
                 lookAround();

@@ -307,16 +307,42 @@ public final class PromisesTest {
         x.worth(2, -1);
         x.run(2);
         due.pairs("9: the least animal in which they differ", x, 1, 4, 3, 5);
+        PairChoice crossed = plain(4, 2);
+        crossed.bar(0, 4, true);
+        crossed.bar(1, 5, true);
+        crossed.bar(2, 4, true);
+        crossed.bar(3, 5, true);
+        crossed.run(2);
+        due.pairs("9: the rest can be paired", crossed, 0, 5, 1, 4);
+        crossed.bar(1, 4, true);
+        crossed.bar(2, 5, true);
+        crossed.run(2);
+        due.pairs("9: 0 and 3 go before any without 0", crossed, 0, 5, 3, 4);
+        PairChoice families = new PairChoice();
+        families.animal(0, 0, 0);
+        families.animal(0, 0, 1);
+        families.animal(0, 0, 1);
+        families.animal(0, 0, 0);
+        families.animal(1, 0, 2);
+        families.animal(1, 0, 2);
+        families.kin(0, 1, 1);
+        families.kin(0, 2, 1);
+        families.kin(3, 1, 1);
+        families.kin(3, 2, 1);
+        families.limit(0);
+        families.run(2);
+        due.pairs("9: 0 and 3 go before 1 and 2", families, 0, 4, 3, 5);
+        due.is("9: both may be", families.told(3), 2);
         PairChoice y = new PairChoice();
         y.animal(1, 5, 0);
         y.animal(0, 5, 0);
         y.animal(1, 7, 0);
-        y.animal(0, 3, 0);
-        y.bar(0, 3, true);
-        y.bar(1, 2, true);
+        y.animal(0, 7, 0);
+        y.bar(0, 1, true);
+        y.bar(2, 3, true);
         y.run(1);
-        due.pairs("9: equal worths, another sex first", y, 1, 0);
-        due.is("9: equal worths", y.told(0), 10);
+        due.pairs("9: the least is a female", y, 3, 0);
+        due.is("9: equal worths", y.told(0), 12);
         due.is("9: both may be", y.told(3), 2);
     }
 
@@ -410,6 +436,16 @@ public final class PromisesTest {
         wide.worth(3, 10000);
         wide.run(2);
         sharesAre("12: the widest points, below zero", wide, 100000, 2, 99998);
+        PairChoice middle = plain(3, 3);
+        middle.worth(0, 1);
+        middle.worth(2, 2);
+        middle.run(3);
+        sharesAre("12: the least pair in the middle", middle, 12, 4, 2, 6);
+        PairChoice last = plain(2, 2);
+        last.worth(0, -1);
+        last.worth(2, -2);
+        last.run(2);
+        sharesAre("12: the least pair first", last, 5, 1, 4);
         PairChoice one = four();
         one.run(1);
         sharesAre("12: one pair", one, 100000, 100000);
@@ -469,6 +505,12 @@ public final class PromisesTest {
         due.is("14: all are chosen", all.backUp(0), -3);
         all.run(1);
         due.is("14: a female is no male", all.backUp(0), 0);
+        PairChoice falling = plain(3, 1);
+        falling.worth(0, 5);
+        falling.worth(1, -10000);
+        falling.worth(2, 9);
+        falling.run(1);
+        due.is("14: the first is the greatest", falling.backUp(0), 0);
     }
 
     private static void backUpKeepsRules() {
