@@ -26,25 +26,6 @@ public final class PromisesTest {
         due.end();
     }
 
-    /** Males 0 and 1, females 2 and 3, worths 10, 20, 30, 40, families 0 to 3. */
-    private static PairChoice four() {
-        PairChoice x = new PairChoice();
-        x.animal(0, 10, 0);
-        x.animal(0, 20, 1);
-        x.animal(1, 30, 2);
-        x.animal(1, 40, 3);
-        return x;
-    }
-
-    /** So many males, then so many females, all worth 0 and of family 0. */
-    private static PairChoice plain(int males, int females) {
-        PairChoice x = new PairChoice();
-        for (int i = 0; i < males + females; i++) {
-            x.animal(i < males ? 0 : 1, 0, 0);
-        }
-        return x;
-    }
-
     private static void choiceStays(String call, PairChoice x) {
         due.is(call + " leaves the choice", x.told(2), 1);
     }
@@ -103,7 +84,7 @@ public final class PromisesTest {
     }
 
     private static void worth() {
-        PairChoice x = four();
+        PairChoice x = Herds.four();
         due.is("3: no such", x.worth(4, 0), -20000);
         due.is("3: no such", x.worth(-1, 0), -20000);
         due.is("3: no such goes first", x.worth(4, 10001), -20000);
@@ -127,7 +108,7 @@ public final class PromisesTest {
     }
 
     private static void kin() {
-        PairChoice x = four();
+        PairChoice x = Herds.four();
         due.is("4: no such", x.kin(0, 4, 0), -1);
         due.is("4: no such", x.kin(4, 0, 0), -1);
         due.is("4: no such", x.kin(-1, 0, 0), -1);
@@ -154,7 +135,7 @@ public final class PromisesTest {
     }
 
     private static void bar() {
-        PairChoice x = four();
+        PairChoice x = Herds.four();
         due.is("5: no such", x.bar(0, 4, true), false);
         due.is("5: no such", x.bar(4, 0, true), false);
         due.is("5: no such", x.bar(-1, 2, true), false);
@@ -184,7 +165,7 @@ public final class PromisesTest {
     }
 
     private static void limit() {
-        PairChoice x = four();
+        PairChoice x = Herds.four();
         due.is("6: too small", x.limit(-1), -2);
         due.is("6: too great", x.limit(1001), -2);
         due.is("6: at first", x.limit(0), 1000);
@@ -199,7 +180,7 @@ public final class PromisesTest {
     }
 
     private static void even() {
-        PairChoice x = four();
+        PairChoice x = Herds.four();
         due.is("7: too small", x.even(-1), -2);
         due.is("7: too great", x.even(13), -2);
         due.is("7: at first", x.even(12), 0);
@@ -214,7 +195,7 @@ public final class PromisesTest {
     }
 
     private static void line() {
-        PairChoice x = four();
+        PairChoice x = Herds.four();
         due.is("8: no such family", x.line(-1, 0), -1);
         due.is("8: no such family", x.line(8, 0), -1);
         due.is("8: no such family goes first", x.line(8, 13), -1);
@@ -234,7 +215,7 @@ public final class PromisesTest {
     }
 
     private static void run() {
-        PairChoice x = four();
+        PairChoice x = Herds.four();
         due.is("9: no pairs", x.run(0), -2);
         due.is("9: too many", x.run(7), -2);
         due.is("9: extremes", x.run(Integer.MIN_VALUE), -2);
@@ -246,18 +227,18 @@ public final class PromisesTest {
         due.is("9: none leaves no choice", x.told(2), -3);
         due.is("9: two", x.run(2), 2);
         due.pairs("9:", x, 0, 2, 1, 3);
-        PairChoice y = plain(6, 6);
+        PairChoice y = Herds.plain(6, 6);
         for (int n = 1; n <= 6; n++) {
             due.is("9: of twelve", y.run(n), n);
         }
         due.pairs("9: all", y, 0, 6, 1, 7, 2, 8, 3, 9, 4, 10, 5, 11);
-        due.is("9: males alone", plain(12, 0).run(1), 0);
-        due.is("9: females alone", plain(0, 12).run(1), 0);
-        due.is("9: one male among many", plain(1, 11).run(2), 0);
+        due.is("9: males alone", Herds.plain(12, 0).run(1), 0);
+        due.is("9: females alone", Herds.plain(0, 12).run(1), 0);
+        due.is("9: one male among many", Herds.plain(1, 11).run(2), 0);
     }
 
     private static void runKeepsRules() {
-        PairChoice x = four();
+        PairChoice x = Herds.four();
         x.kin(1, 1, 100);
         x.kin(3, 3, 100);
         x.kin(1, 3, 40);
@@ -273,7 +254,7 @@ public final class PromisesTest {
         x.kin(0, 2, 1);
         due.is("9: all beyond", x.run(1), 0);
 
-        PairChoice most = plain(3, 3);
+        PairChoice most = Herds.plain(3, 3);
         due.is("9: any number of a family", most.run(3), 3);
         most.even(5);
         due.is("9: more than the most", most.run(3), 0);
@@ -287,7 +268,7 @@ public final class PromisesTest {
         most.line(7, 1);
         due.is("9: a family that nobody has", most.run(3), 0);
 
-        PairChoice apart = plain(3, 3);
+        PairChoice apart = Herds.plain(3, 3);
         apart.bar(0, 4, true);
         apart.bar(0, 5, true);
         apart.bar(1, 4, true);
@@ -298,7 +279,7 @@ public final class PromisesTest {
     }
 
     private static void runAmongEquals() {
-        PairChoice x = plain(4, 4);
+        PairChoice x = Herds.plain(4, 4);
         x.run(2);
         due.pairs("9: the least animals", x, 0, 4, 1, 5);
         x.worth(0, -3);
@@ -307,7 +288,7 @@ public final class PromisesTest {
         x.worth(2, -1);
         x.run(2);
         due.pairs("9: the least animal in which they differ", x, 1, 4, 3, 5);
-        PairChoice crossed = plain(4, 2);
+        PairChoice crossed = Herds.plain(4, 2);
         crossed.bar(0, 4, true);
         crossed.bar(1, 5, true);
         crossed.bar(2, 4, true);
@@ -347,7 +328,7 @@ public final class PromisesTest {
     }
 
     private static void pairOf() {
-        PairChoice x = plain(3, 3);
+        PairChoice x = Herds.plain(3, 3);
         due.is("10: no choice", x.pairOf(0, 0), -1);
         x.bar(1, 4, true);
         x.bar(1, 5, true);
@@ -365,7 +346,7 @@ public final class PromisesTest {
     }
 
     private static void told() {
-        PairChoice x = four();
+        PairChoice x = Herds.four();
         due.is("11: no choice", x.told(0), -3);
         due.is("11: no choice", x.told(3), -3);
         due.is("11: outside goes first", x.told(4), -2);
@@ -393,10 +374,10 @@ public final class PromisesTest {
         x.bar(0, 3, true);
         x.run(1);
         due.is("11: sets without the barred one", x.told(3), 3);
-        PairChoice y = plain(6, 6);
+        PairChoice y = Herds.plain(6, 6);
         y.run(3);
         due.is("11: the most sets", y.told(3), 400);
-        PairChoice low = plain(6, 6);
+        PairChoice low = Herds.plain(6, 6);
         for (int a = 0; a < 12; a++) {
             low.worth(a, -10000);
             for (int b = 0; b <= a; b++) {
@@ -409,7 +390,7 @@ public final class PromisesTest {
     }
 
     private static void eggs() {
-        PairChoice x = plain(3, 3);
+        PairChoice x = Herds.plain(3, 3);
         due.is("12: no choice", x.eggs(1), -3);
         due.is("12: outside goes first", x.eggs(-1), -2);
         x.worth(0, 2);
@@ -418,48 +399,41 @@ public final class PromisesTest {
         due.is("12: too few", x.eggs(-1), -2);
         due.is("12: too many", x.eggs(100001), -2);
         due.is("12: none", x.eggs(0), 0);
-        sharesAre("12: 3 : 2 : 1 of 6", x, 6, 3, 2, 1);
-        sharesAre("12: 3 : 2 : 1 of 1", x, 1, 1, 0, 0);
-        sharesAre("12: 3 : 2 : 1 of 2", x, 2, 1, 1, 0);
-        sharesAre("12: 3 : 2 : 1 of 3", x, 3, 2, 1, 0);
-        sharesAre("12: 3 : 2 : 1 of 4", x, 4, 2, 1, 1);
-        sharesAre("12: 3 : 2 : 1 of 5", x, 5, 2, 2, 1);
-        sharesAre("12: 3 : 2 : 1 of all", x, 100000, 50000, 33333, 16667);
-        PairChoice same = plain(3, 3);
+        due.shares("12: 3 : 2 : 1 of 6", x, 6, 3, 2, 1);
+        due.shares("12: 3 : 2 : 1 of 1", x, 1, 1, 0, 0);
+        due.shares("12: 3 : 2 : 1 of 2", x, 2, 1, 1, 0);
+        due.shares("12: 3 : 2 : 1 of 3", x, 3, 2, 1, 0);
+        due.shares("12: 3 : 2 : 1 of 4", x, 4, 2, 1, 1);
+        due.shares("12: 3 : 2 : 1 of 5", x, 5, 2, 2, 1);
+        due.shares("12: 3 : 2 : 1 of all", x, 100000, 50000, 33333, 16667);
+        PairChoice same = Herds.plain(3, 3);
         same.run(3);
-        sharesAre("12: the lesser pair first", same, 5, 2, 2, 1);
-        sharesAre("12: the lesser pair first", same, 4, 2, 1, 1);
-        PairChoice wide = plain(2, 2);
+        due.shares("12: the lesser pair first", same, 5, 2, 2, 1);
+        due.shares("12: the lesser pair first", same, 4, 2, 1, 1);
+        PairChoice wide = Herds.plain(2, 2);
         wide.worth(0, -10000);
         wide.worth(2, -10000);
         wide.worth(1, 10000);
         wide.worth(3, 10000);
         wide.run(2);
-        sharesAre("12: the widest points, below zero", wide, 100000, 2, 99998);
-        PairChoice middle = plain(3, 3);
+        due.shares("12: the widest points, below zero", wide, 100000, 2, 99998);
+        PairChoice middle = Herds.plain(3, 3);
         middle.worth(0, 1);
         middle.worth(2, 2);
         middle.run(3);
-        sharesAre("12: the least pair in the middle", middle, 12, 4, 2, 6);
-        PairChoice last = plain(2, 2);
+        due.shares("12: the least pair in the middle", middle, 12, 4, 2, 6);
+        PairChoice last = Herds.plain(2, 2);
         last.worth(0, -1);
         last.worth(2, -2);
         last.run(2);
-        sharesAre("12: the least pair first", last, 5, 1, 4);
-        PairChoice one = four();
+        due.shares("12: the least pair first", last, 5, 1, 4);
+        PairChoice one = Herds.four();
         one.run(1);
-        sharesAre("12: one pair", one, 100000, 100000);
-    }
-
-    private static void sharesAre(String call, PairChoice x, int n, int... shares) {
-        due.is(call, x.eggs(n), shares[0]);
-        for (int k = 0; k < shares.length; k++) {
-            due.is(call + " eggsOf(" + k + ")", x.eggsOf(k), shares[k]);
-        }
+        due.shares("12: one pair", one, 100000, 100000);
     }
 
     private static void eggsOf() {
-        PairChoice x = four();
+        PairChoice x = Herds.four();
         due.is("13: no choice", x.eggsOf(0), -1);
         x.run(2);
         due.is("13: no eggs yet", x.eggsOf(0), 0);
@@ -484,7 +458,7 @@ public final class PromisesTest {
     }
 
     private static void backUp() {
-        PairChoice x = plain(5, 3);
+        PairChoice x = Herds.plain(5, 3);
         due.is("14: no choice", x.backUp(0), -1);
         x.worth(0, 9);
         x.worth(1, 8);
@@ -500,12 +474,12 @@ public final class PromisesTest {
         x.run(2);
         due.is("14: barred from this female", x.backUp(0), 4);
         due.is("14: not barred from that one", x.backUp(1), 3);
-        PairChoice all = four();
+        PairChoice all = Herds.four();
         all.run(2);
         due.is("14: all are chosen", all.backUp(0), -3);
         all.run(1);
         due.is("14: a female is no male", all.backUp(0), 0);
-        PairChoice falling = plain(3, 1);
+        PairChoice falling = Herds.plain(3, 1);
         falling.worth(0, 5);
         falling.worth(1, -10000);
         falling.worth(2, 9);
@@ -542,7 +516,7 @@ public final class PromisesTest {
     }
 
     private static void test() {
-        PairChoice x = four();
+        PairChoice x = Herds.four();
         due.is("15: no pairs", x.test(0, 1), -2);
         due.is("15: too many pairs", x.test(7, 1), -2);
         due.is("15: d too small", x.test(1, 0), -2);
@@ -570,14 +544,14 @@ public final class PromisesTest {
         x.test(2, 7);
         choiceStays("15: a test", x);
         due.pairs("15: a test", x, 1, 3);
-        PairChoice sole = plain(1, 3);
+        PairChoice sole = Herds.plain(1, 3);
         sole.bar(0, 1, true);
         // The male and the barred female are never what tells.
         due.is("15: a choice to make", sole.test(1, 5), 2);
     }
 
     private static void ahead() {
-        PairChoice x = four();
+        PairChoice x = Herds.four();
         due.is("16: no years", x.ahead(0, 0, 0L, 1), -2);
         due.is("16: too many years", x.ahead(21, 0, 0L, 1), -2);
         due.is("16: risk too small", x.ahead(1, -1, 0L, 1), -2);
@@ -607,7 +581,7 @@ public final class PromisesTest {
     }
 
     private static void after() {
-        PairChoice x = four();
+        PairChoice x = Herds.four();
         due.is("17: nothing yet", x.after(0, 0), -1);
         x.ahead(8, 200, 7L, 1);
         // Alive: all, all, 1 2 3, 1 2, 1 2, 1, 1, 1.
