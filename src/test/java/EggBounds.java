@@ -57,7 +57,7 @@ final class EggBounds {
         due.shares("six pairs", six, 100000, 20000, 20000, 20000, 20000, 20000, 0);
     }
 
-    @Says(promise = 12, words = "what is left goes one by one to those with the greatest rests")
+    @Says(promise = 12, words = "and what is left goes one by one to those with the greatest rests")
     static void whatIsLeftGoesByTheRests(Due due) {
         PairChoice x = pairsWorth(2, 1, 0);
         due.shares("3 2 1 of 6: nothing left", x, 6, 3, 2, 1);

@@ -1,11 +1,16 @@
+import java.io.IOException;
 import java.lang.reflect.Constructor;
 import java.lang.reflect.Field;
 import java.lang.reflect.Method;
 import java.lang.reflect.Modifier;
+import java.nio.file.Files;
+import java.nio.file.Path;
 import java.util.Set;
 import java.util.TreeSet;
+import java.util.regex.Matcher;
+import java.util.regex.Pattern;
 
-/** The class has the document's face, and no member beside it that another class could see. */
+/** The class has the document's face, and no member beside it that another class could see; none holds static state. */
 public final class FaceTest {
     private static final Set<String> FACE = Set.of(
             "int animal(int,int,int)", "int worth(int,int)", "int kin(int,int,int)", "boolean bar(int,int,boolean)",
@@ -13,8 +18,13 @@ public final class FaceTest {
             "int told(int)", "int eggs(int)", "int eggsOf(int)", "int backUp(int)", "int test(int,int)",
             "int ahead(int,int,long,int)", "int after(int,int)");
 
-    public static void main(String[] args) {
+    private static final Path DOCUMENT = Path.of("..", "shared", "DOC.md");
+
+    public static void main(String[] args) throws IOException {
         Due due = new Due();
+        if (Files.exists(DOCUMENT)) {
+            due.is("the document's face", documentsFace().equals(FACE), true);
+        }
         Class<?> face = PairChoice.class;
         due.is("public and final", face.getModifiers(), Modifier.PUBLIC | Modifier.FINAL);
         Set<String> methods = new TreeSet<>();
@@ -35,8 +45,27 @@ public final class FaceTest {
         }
         for (Class<?> inside : face.getDeclaredClasses()) {
             due.is(inside + " is static", Modifier.isStatic(inside.getModifiers()), true);
+            noStaticState(due, inside);
         }
+        noStaticState(due, face);
         due.end();
+    }
+
+    /** The methods of the document's code, without the names of their parameters. */
+    private static Set<String> documentsFace() throws IOException {
+        Set<String> methods = new TreeSet<>();
+        Matcher line = Pattern.compile("public (\\w+ \\w+)\\(([^)]*)\\);").matcher(Files.readString(DOCUMENT));
+        while (line.find()) {
+            methods.add(line.group(1) + "(" + line.group(2).replaceAll(" \\w+(, )?", ",").replaceAll(",$", "") + ")");
+        }
+        return methods;
+    }
+
+    private static void noStaticState(Due due, Class<?> holder) {
+        for (Field field : holder.getDeclaredFields()) {
+            int modifiers = field.getModifiers();
+            due.is(field + " is final", !Modifier.isStatic(modifiers) || Modifier.isFinal(modifiers), true);
+        }
     }
 
     private static String text(Method method) {

@@ -3,7 +3,7 @@ import java.lang.annotation.Retention;
 import java.lang.annotation.RetentionPolicy;
 import java.lang.annotation.Target;
 
-/** The promise that a test holds, and the words of the document that name its boundary case. */
+/** The promise of the document that a test holds, and which of its words. */
 @Retention(RetentionPolicy.RUNTIME)
 @Target(ElementType.METHOD)
 @interface Says {

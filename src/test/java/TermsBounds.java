@@ -436,7 +436,7 @@ final class TermsBounds {
         due.noChoice("after " + text, x);
     }
 
-    @Says(promise = Says.TERMS, words = "each of animal(), worth(), kin(), bar(), limit(), even(), line() that changes something, leaves no CHOICE")
+    @Says(promise = Says.TERMS, words = "and each of animal(), worth(), kin(), bar(), limit(), even(), line() that changes something, leaves no CHOICE")
     static void eachChangeLeavesNoChoice(Due due) {
         choiceGoesBy(due, "animal(1, -10000, 7)", x -> x.animal(1, -10000, 7), 7);
         choiceGoesBy(due, "worth(6, -8)", x -> x.worth(6, -8), -7);

@@ -5,26 +5,28 @@ import java.nio.charset.StandardCharsets;
 import java.nio.file.Files;
 import java.nio.file.Path;
 import java.util.ArrayList;
+import java.util.Arrays;
 import java.util.Comparator;
 import java.util.List;
 
 /**
- * Runs every test that holds a boundary case of the document, and sees that BOUNDARIES.md lists them all.
+ * Runs every test that holds a sentence of the document, sees that no words of it are without one, and that
+ * SENTENCES.md lists them all.
  *
- * <p>With the argument "list" it prints what BOUNDARIES.md has to hold instead.
+ * <p>With the argument "list" it prints what SENTENCES.md has to hold instead.
  */
-public final class BoundariesTest {
+public final class SentencesTest {
     private static final int PROMISES = 17;
-    private static final Path LIST = Path.of("BOUNDARIES.md");
+    private static final Path LIST = Path.of("SENTENCES.md");
     private static final Path DOCUMENT = Path.of("..", "shared", "DOC.md");
-    private static final List<Class<?>> HOLDERS = List.of(UseBounds.class, TermsBounds.class, AnimalBounds.class,
-            RuleBounds.class, ChoiceBounds.class, EggBounds.class, AheadBounds.class);
+    private static final List<Class<?>> HOLDERS = List.of(OrdinaryCases.class, UseBounds.class, TermsBounds.class,
+            AnimalBounds.class, RuleBounds.class, ChoiceBounds.class, EggBounds.class, AheadBounds.class);
 
-    private BoundariesTest() {
+    private SentencesTest() {
     }
 
     public static void main(String[] args) throws IOException {
-        String document = read(DOCUMENT).replaceAll("\\s+", " ");
+        String document = read(DOCUMENT).replaceAll("```[a-z]*", "").replaceAll("\\s+", " ");
         List<Method> tests = testsInTheOrderOf(document);
         if (args.length == 1 && args[0].equals("list")) {
             System.out.print(listOf(tests));
@@ -39,9 +41,10 @@ public final class BoundariesTest {
         eachSectionHasOne(due, tests);
         if (!document.isEmpty()) {
             wordsAreTheDocuments(due, tests, document);
-            due.is("BOUNDARIES.md lists the tests", read(LIST).equals(listOf(tests)), true);
+            noWordsAreWithoutATest(due, tests, document);
+            due.is("SENTENCES.md lists the tests", read(LIST).equals(listOf(tests)), true);
         }
-        System.out.println(tests.size() + " tests of boundary cases");
+        System.out.println(tests.size() + " tests of the document's sentences");
         due.end();
     }
 
@@ -55,7 +58,7 @@ public final class BoundariesTest {
             }
         }
         tests.sort(Comparator.comparingInt((Method test) -> says(test).promise())
-                .thenComparingInt(test -> textOf(test, document).indexOf(says(test).words()))
+                .thenComparingInt(test -> textOf(says(test).promise(), document).indexOf(says(test).words()))
                 .thenComparing(Method::getName));
         return tests;
     }
@@ -83,15 +86,50 @@ public final class BoundariesTest {
     /** A sentence that the document says in another way by now has to be read again, and its test with it. */
     private static void wordsAreTheDocuments(Due due, List<Method> tests, String document) {
         for (Method test : tests) {
-            boolean found = textOf(test, document).contains(says(test).words());
+            boolean found = textOf(says(test).promise(), document).contains(says(test).words());
             due.is("the document's words at " + nameOf(test), found, true);
         }
     }
 
+    /** A test holds the first place where its words stand; the face's lines are held by FaceTest. */
+    private static void noWordsAreWithoutATest(Due due, List<Method> tests, String document) {
+        for (int promise = Says.USE; promise <= PROMISES; promise++) {
+            String text = textOf(promise, document);
+            boolean[] held = new boolean[text.length()];
+            hold(held, 0, bodyStart(promise, text));
+            for (Method test : tests) {
+                int from = says(test).promise() == promise ? text.indexOf(says(test).words()) : -1;
+                if (from >= 0) {
+                    hold(held, from, from + says(test).words().length());
+                }
+            }
+            due.is("a test for the words \"" + notHeld(text, held) + "\" of " + section(promise),
+                    notHeld(text, held).isEmpty(), true);
+        }
+    }
+
+    private static int bodyStart(int promise, String text) {
+        return promise > 0 ? text.indexOf("`: ") + 3 : ("## " + section(promise)).length();
+    }
+
+    private static void hold(boolean[] held, int from, int to) {
+        Arrays.fill(held, from, Math.min(to, held.length), true);
+    }
+
+    private static String notHeld(String text, boolean[] held) {
+        StringBuilder words = new StringBuilder();
+        for (int i = 0; i < text.length(); i++) {
+            if (!held[i] && ",;:. ".indexOf(text.charAt(i)) < 0) {
+                words.append(text.charAt(i));
+            }
+        }
+        return words.toString();
+    }
+
     private static String listOf(List<Method> tests) {
         StringBuilder list = new StringBuilder();
-        list.append("# Which test holds which boundary case\n\n");
-        list.append("Written by `BoundariesTest list` (README.md says how); BoundariesTest fails if a test is missing here.\n\n");
+        list.append("# Which test holds which sentence\n\n");
+        list.append("Written by `SentencesTest list` (README.md says how); SentencesTest fails if a test is missing here.\n\n");
         list.append("| Section | The document's words | Test |\n|---|---|---|\n");
         for (Method test : tests) {
             list.append("| ").append(sectionOf(test)).append(" | ").append(says(test).words());
@@ -100,9 +138,9 @@ public final class BoundariesTest {
         return list.toString();
     }
 
-    /** What the document says in a test's section, its heading among it. */
-    private static String textOf(Method test, String document) {
-        int from = document.indexOf("## " + sectionOf(test) + (says(test).promise() > 0 ? ":" : " "));
+    /** What the document says in a section, its heading among it. */
+    private static String textOf(int promise, String document) {
+        int from = document.indexOf("## " + section(promise) + (promise > 0 ? ":" : " "));
         int to = document.indexOf(" ## ", Math.max(from, 0));
         if (from < 0) {
             return "";
